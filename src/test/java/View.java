@@ -4,6 +4,11 @@ final class View {
     }
 
     static String of(ReadAhead x) {
+        return of(x, 24);
+    }
+
+    /** With foresight() up to a number: a model may find more of it too dear. */
+    static String of(ReadAhead x, int foreseen) {
         StringBuilder text = new StringBuilder();
         text.append("digest ").append(x.digest()).append(" house");
         for (int what = 0; what < 8; what++) {
@@ -35,7 +40,7 @@ final class View {
             }
         }
         text.append(" foresight");
-        for (int n = 0; n <= 24; n++) {
+        for (int n = 0; n <= foreseen; n++) {
             text.append(' ').append(x.foresight(n));
         }
         return text.toString();

@@ -17,6 +17,7 @@ public final class HouseTest {
         cautiousReach();
         leftOnesGoFirst();
         leftIsLookedAtNow();
+        nothingIsLeftAheadOfTheFirstAsk();
         leftOnesMustBeAllowedToGo();
         asksAndTicks();
         goingFreshIsWasted();
@@ -242,6 +243,13 @@ public final class HouseTest {
         x = strided(4, 8);
         asks(x, 0, 7, 7, 7);
         line("by no step", x, "");
+        x = cleared(1, 1, 4);
+        x.share(1, 1);
+        x.kind(0, 2, 8);
+        asks(x, 1, 1);
+        asks(x, 0, 7, 7, 7);
+        due.is("read through", x.told(0, 6), 3);
+        line("by no step, though 7 is not in the room", x, "");
         x = strided(4, 3);
         asks(x, 0, 47, 52, 57);
         line("67 and 72 are no blocks", x, "62/0");
@@ -398,6 +406,17 @@ public final class HouseTest {
         room("another's block", x, "60/2/0/0 30/3/0/0 8/2/0/0");
     }
 
+    /** 5 comes while it is asked for: 2 never asked ahead of that, so nothing of 2 is left yet. */
+    private static void nothingIsLeftAheadOfTheFirstAsk() {
+        ReadAhead x = cleared(2, 2, 4);
+        x.kind(0, 1, 2);
+        asks(x, 0, 10);
+        x.kind(2, 4, 0);
+        x.hint(2, 0, 9);
+        asks(x, 2, 5);
+        room("the oldest went", x, "5/2/0/0 11/0/1/0");
+    }
+
     private static void leftOnesMustBeAllowedToGo() {
         ReadAhead x = cleared(2, 1, 4);
         x.share(2, 1);
@@ -424,6 +443,7 @@ public final class HouseTest {
         due.is("hits of 1", x.told(1, 1), 1);
         due.is("saved for 1", x.told(1, 5), 0);
         due.is("saved for 0", x.told(0, 5), 1);
+        due.is("reach(0) of one that is not cautious", x.reach(0), 3);
         due.is("ask(1, 11) once more", x.ask(1, 11), 0);
         due.is("saved once", x.told(-1, 5), 1);
         room("behind the pace", x, "10/0/0/0 12/1/0/0 11/0/0/0 13/0/1/0");
@@ -451,6 +471,12 @@ public final class HouseTest {
         due.is("wasted for 0", x.told(0, 4), 1);
         due.is("wasted for 1", x.told(1, 4), 0);
         due.is("ask(2, 11), no more in the room", x.ask(2, 11), 1);
+        x.kind(1, 1, 1);
+        asks(x, 1, 20);
+        x.idle(1);
+        asks(x, 1, 50, 52);
+        due.is("wasted for 0", x.told(0, 4), 1);
+        due.is("wasted for 1", x.told(1, 4), 1);
         due.is("saved", x.told(-1, 5), 0);
     }
 

@@ -249,7 +249,8 @@ public final class HouseTest {
         asks(x, 1, 1);
         asks(x, 0, 7, 7, 7);
         due.is("read through", x.told(0, 6), 3);
-        line("by no step, though 7 is not in the room", x, "");
+        due.is("by no step nothing is fetched, though 7 is not in the room", x.told(0, 3), 0);
+        line("by no step", x, "");
         x = strided(4, 3);
         asks(x, 0, 47, 52, 57);
         line("67 and 72 are no blocks", x, "62/0");

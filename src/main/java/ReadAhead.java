@@ -141,7 +141,7 @@ public final class ReadAhead {
             case 2:
                 return held.fresh[i];
             default:
-                return now.isLeft(i) ? 1 : 0;
+                return now.askers[held.asker[i]].hasLeft(held.block[i]) ? 1 : 0;
         }
     }
 
@@ -506,7 +506,9 @@ public final class ReadAhead {
             askers[p].counts[ASKS]++;
             int at = room.find(block);
             if (at == NONE) {
-                stall(p, block);
+                demand(p, block);
+                // One tick is always enough: the demanded block is the first that it serves.
+                tick(block, p);
             } else {
                 hit(p, at);
             }
@@ -529,14 +531,12 @@ public final class ReadAhead {
             room.add(block, owner, 0);
         }
 
-        /** One tick is always enough: the demanded block is the first that a tick serves. */
-        private void stall(int p, int block) {
+        private void demand(int p, int block) {
             int at = line.find(block);
             if (at != NONE) {
                 line.remove(at);
             }
             askers[p].counts[STALLS]++;
-            tick(block, p);
         }
 
         /** Serves the demanded block first, if it is not NONE; returns how many came. */
@@ -584,7 +584,7 @@ public final class ReadAhead {
             for (int i = 0; i < room.count; i++) {
                 int owner = room.asker[i];
                 if (owner == p || room.heldFor[owner] > askers[owner].share) {
-                    if (isLeft(i)) {
+                    if (askers[owner].hasLeft(room.block[i])) {
                         return i;
                     }
                     if (oldest == NONE) {
@@ -593,10 +593,6 @@ public final class ReadAhead {
                 }
             }
             return oldest;
-        }
-
-        boolean isLeft(int i) {
-            return askers[room.asker[i]].hasLeft(room.block[i]);
         }
 
         private void letGo(int at) {

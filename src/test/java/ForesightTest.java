@@ -10,6 +10,7 @@ public final class ForesightTest {
         asksAreNumberedSinceClear();
         refusals();
         againstSearch();
+        ofSevenAgainstSearch();
         due.end();
     }
 
@@ -81,6 +82,48 @@ public final class ForesightTest {
                 due.is(call, x.foresight(n), new PlanSearch(latest, from + 1, space, speed, pace).least());
             }
         }
+    }
+
+    /**
+     * Seven unlike blocks first, then any of them: in rows by chance the seventh comes so late that
+     * it hardly matters what becomes of it. (Asks ahead of these move the numbers of the asks.)
+     */
+    private static void ofSevenAgainstSearch() {
+        Random random = new Random(7);
+        for (int run = 0; run < 200 && !due.hasWrong(); run++) {
+            int space = 1 + random.nextInt(run % 2 == 0 ? 7 : 3);
+            int speed = 1 + random.nextInt(2);
+            int pace = 1 + random.nextInt(4);
+            int ahead = random.nextInt(4);
+            int[] latest = run % 2 == 0 ? rowOfSeven(random) : rowToAndFro(random);
+            ReadAhead x = Bench.cleared(space, speed, pace);
+            for (int i = 0; i < ahead; i++) {
+                x.ask(0, 50);
+            }
+            Bench.asks(x, 0, latest);
+            String call = "space " + space + " speed " + speed + " pace " + pace + " ahead " + ahead
+                    + " latest " + Arrays.toString(latest);
+            due.is(call, x.foresight(24), new PlanSearch(latest, ahead + 1, space, speed, pace).least());
+        }
+    }
+
+    private static int[] rowOfSeven(Random random) {
+        int[] row = new int[24];
+        for (int i = 0; i < row.length; i++) {
+            row[i] = i < 7 ? i : random.nextInt(7);
+        }
+        return row;
+    }
+
+    /** Between the seventh and another one, which changes now and then. */
+    private static int[] rowToAndFro(Random random) {
+        int[] row = new int[24];
+        int other = 0;
+        for (int i = 0; i < row.length; i++) {
+            other = random.nextInt(4) == 0 ? random.nextInt(6) : other;
+            row[i] = i < 7 ? i : i % 2 == 0 ? 6 : other;
+        }
+        return row;
     }
 
     private static int[] row(Random random, int length) {

@@ -27,34 +27,19 @@ public final class HouseTest {
     }
 
     private static ReadAhead cleared(int space, int speed, int pace) {
-        ReadAhead x = new ReadAhead();
-        x.clear(space, speed, pace);
-        return x;
+        return Bench.cleared(space, speed, pace);
     }
 
     private static void asks(ReadAhead x, int p, int... blocks) {
-        for (int block : blocks) {
-            x.ask(p, block);
-        }
+        Bench.asks(x, p, blocks);
     }
 
-    /** The room as block/owner/fresh/left, the oldest first. */
     private static void room(String when, ReadAhead x, String want) {
-        StringBuilder text = new StringBuilder();
-        for (int i = 0; i < x.house(4); i++) {
-            text.append(i == 0 ? "" : " ").append(x.room(i, 0)).append('/').append(x.room(i, 1));
-            text.append('/').append(x.room(i, 2)).append('/').append(x.room(i, 3));
-        }
-        due.same("room " + when, text.toString(), want);
+        due.same("room " + when, Bench.room(x), want);
     }
 
-    /** Those that wait as block/asker. */
     private static void line(String when, ReadAhead x, String want) {
-        StringBuilder text = new StringBuilder();
-        for (int i = 0; i < x.house(5); i++) {
-            text.append(i == 0 ? "" : " ").append(x.waiting(i, 0)).append('/').append(x.waiting(i, 1));
-        }
-        due.same("waiting " + when, text.toString(), want);
+        due.same("waiting " + when, Bench.line(x), want);
     }
 
     private static void aNewObject() {

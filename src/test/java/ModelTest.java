@@ -72,7 +72,8 @@ public final class ModelTest {
         int p = number(0, 3);
         int step = random.nextInt(4);
         walk = step == 0 ? random.nextInt(blocks) : (walk + step - 1 + (p & 1)) % blocks;
-        int block = number(0, 63) == 64 ? 64 : walk;
+        int any = number(0, 63);
+        int block = any < 0 || any > 63 ? any : walk;
         same("ask(" + p + ", " + block + ")", x.ask(p, block), model.ask(p, block));
     }
 
@@ -100,10 +101,11 @@ public final class ModelTest {
         same("share(" + p + ", " + n + ")", x.share(p, n), model.share(p, n));
     }
 
-    /** From least to most, and now and then one below or above. */
+    /** From least to most, and now and then one below or above, just so or far out. */
     private int number(int least, int most) {
         if (random.nextInt(100) < wrongOnes) {
-            return random.nextBoolean() ? least - 1 : most + 1;
+            int[] outside = {least - 1, most + 1, Integer.MIN_VALUE, Integer.MAX_VALUE};
+            return outside[random.nextInt(outside.length)];
         }
         return least + random.nextInt(most - least + 1);
     }
